@@ -133,7 +133,8 @@ public final class EditsTest {
     private static void blanksHaveNoLook() {
         String[] sequences = {"J", "1J", "2J", "K", "1K", "2K", "X", "3X", "@", "3@", "P", "3P", "L", "M", "S", "T"};
         for (String sequence : sequences) {
-            Probe probe = at("look of " + sequence, 3, 4).pack(Probe.CSI + "1;4;7;33;44m" + Probe.CSI + sequence);
+            Probe probe = new Probe("look of " + sequence).pack(Probe.CSI + "1;4;7;33;44m").fill();
+            probe.pack(Probe.CSI + "4;5H" + Probe.CSI + sequence);
             Probe.same("blanks of " + sequence, probe.desk.cells(32, -1), probe.desk.cells(32, 0));
             Probe.same("some blanks of " + sequence, probe.desk.cells(32, 0) > 0, true);
         }

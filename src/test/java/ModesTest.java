@@ -42,6 +42,8 @@ public final class ModesTest {
         probe.send("y" + Probe.CSI + "?47l").mode(3, 0).line(0, "abc y       ");
         probe.send(Probe.CSI + "?47h").cells(32, 0, 96).send(Probe.CSI + "2J" + "z" + Probe.CSI + "S" + Probe.CSI + "?47l");
         probe.line(0, "abc y       ").code(0, 5, 32).cursor(0, 6).mode(0, 0).mode(1, 0).mode(2, 1);
+        Probe corners = new Probe("page 1 is blank anew").send(Probe.CSI + "?47h").fill().cells(32, 0, 0);
+        corners.send(Probe.CSI + "?47l").cells(32, 0, 96).send(Probe.CSI + "?47h").cells(32, 0, 96);
         new Probe("47l at first").send("a" + Probe.CSI + "?47l").line(0, "a           ").mode(3, 0);
         Probe looks = new Probe("looks of pages").send(Probe.CSI + "7m" + "a" + Probe.CSI + "?47h").look(0, 0, 0).pen(4);
         looks.send("\rb").look(0, 0, 4).send(Probe.CSI + "?47l").code(0, 0, 'a').look(0, 0, 4);

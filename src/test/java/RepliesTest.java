@@ -73,7 +73,15 @@ public final class RepliesTest {
         Probe.same("no room for six", probe.desk.waiting(), 60);
         probe.pack(Probe.CSI + "5n");
         Probe.same("room for four", probe.desk.waiting(), 64);
-        probe.replies(WELL.repeat(16));
+        for (int i = 0; i < 5; i++) {
+            probe.desk.reply();
+        }
+        probe.pack(Probe.CSI + "6n");
+        Probe.same("room for five alone", probe.desk.waiting(), 59);
+        probe.desk.reply();
+        probe.pack(Probe.CSI + "6n");
+        Probe.same("room for six", probe.desk.waiting(), 64);
+        probe.replies("0n" + WELL.repeat(14) + "\33[1;1R");
     }
 
     private static void roomForPositions() {
