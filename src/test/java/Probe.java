@@ -2,18 +2,30 @@ import java.util.NoSuchElementException;
 
 /** One desk under test: sends bytes, compares answers, and counts those that are wrong. */
 final class Probe {
-    static final String ESC = "\33";
-    static final String CSI = "\33[";
+    static final String ESC = "\033";
+    static final String CSI = "\033[";
     static final String BLANK_LINE = "            ";
+    static final String ALL_ROWS = "abcdefgh";
+    static final String ALL_COLUMNS = "abcdefghijkl";
 
     private static int wrong = 0;
     private static int looked = 0;
+    private static String sentence = "";
+
+    static {
+        Watch.begin();
+    }
 
     final ScreenDesk desk = new ScreenDesk();
     private final String what;
 
     Probe(String what) {
         this.what = what;
+    }
+
+    /** From here on a wrong answer is told with these words of the document. */
+    static void about(String words) {
+        sentence = words;
     }
 
     /** Ends a test's main method: exit code 1 if an answer was wrong. */
@@ -31,17 +43,20 @@ final class Probe {
     static void same(String what, long got, long want) {
         looked++;
         if (got != want) {
-            wrong++;
-            System.out.println(what + ": got " + got + ", due is " + want);
+            tell(what + ": got " + got + ", due is " + want);
         }
     }
 
     static void same(String what, String got, String want) {
         looked++;
         if (!got.equals(want)) {
-            wrong++;
-            System.out.println(what + ": got <" + got + ">, due is <" + want + ">");
+            tell(what + ": got <" + got + ">, due is <" + want + ">");
         }
+    }
+
+    private static void tell(String answer) {
+        wrong++;
+        System.out.println(sentence.isEmpty() ? answer : "\"" + sentence + "\": " + answer);
     }
 
     static void same(String what, boolean got, boolean want) {
@@ -63,14 +78,31 @@ final class Probe {
         return this;
     }
 
+    /** Sequences, each one without what leads to it. */
+    Probe seq(String... sequences) {
+        for (String sequence : sequences) {
+            pack(CSI + sequence);
+        }
+        return this;
+    }
+
+    /** What stands behind an ESCAPE. */
+    Probe esc(String rest) {
+        return pack(ESC + rest);
+    }
+
+    /** Letters a .. l over the cursor's row, so that the cursor is full. */
+    Probe fillRow() {
+        return pack("\r" + ALL_COLUMNS).full(true);
+    }
+
     /** Letters a .. h over the whole of rows 0 .. 7, then the cursor at (0, 0). */
     Probe fill() {
         for (int row = 0; row < 8; row++) {
-            pack(Probe.CSI + (row + 1) + "H");
-            char letter = (char) ('a' + row);
-            pack(String.valueOf(letter).repeat(12));
+            seq((row + 1) + "H");
+            pack(ALL_ROWS.substring(row, row + 1).repeat(12));
         }
-        return pack(Probe.CSI + "H");
+        return seq("H");
     }
 
     /** As send, but in few calls. */
@@ -89,6 +121,10 @@ final class Probe {
     Probe cursor(int row, int column, boolean full) {
         same(what + ": row()", desk.row(), row);
         same(what + ": column()", desk.column(), column);
+        return full(full);
+    }
+
+    Probe full(boolean full) {
         same(what + ": full()", desk.full(), full);
         return this;
     }
@@ -168,9 +204,14 @@ final class Probe {
         return this;
     }
 
+    Probe waiting(int bytes) {
+        same(what + ": waiting()", desk.waiting(), bytes);
+        return this;
+    }
+
     /** Takes all that waits. */
     Probe replies(String want) {
-        same(what + ": waiting()", desk.waiting(), want.length());
+        waiting(want.length());
         StringBuilder got = new StringBuilder();
         for (int i = desk.waiting(); i > 0; i--) {
             got.append((char) desk.reply());
@@ -180,7 +221,7 @@ final class Probe {
     }
 
     Probe noReply() {
-        same(what + ": waiting()", desk.waiting(), 0);
+        waiting(0);
         boolean threw = false;
         try {
             desk.reply();
