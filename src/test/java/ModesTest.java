@@ -15,7 +15,11 @@ public final class ModesTest {
         Probe probe = new Probe("0").seq("5G", "g").tabs("........T...").seq("g").tabs("........T...").cursor(0, 4);
         probe.seq("9G", "0g").tabs("............").cursor(0, 8);
         new Probe("3").seq("3;6H", "3g").tabs("............").cursor(2, 5).seq("3g").tabs("............");
-        new Probe("3 of all").pack(" \033H \033H \033H \033H \033H \033H \033H \033H \033H \033H \033H").seq("3g").tabs("............");
+        Probe all = new Probe("3 of all");
+        for (int column = 1; column < 13; column++) {
+            all.seq(column + "G").esc("H");
+        }
+        all.tabs("TTTTTTTTTTTT").seq("3g").tabs("............");
         new Probe("others").seq("5G", "1g", "2g", "4g", "5g", "9999g", "?g", "?0g", "?3g").tabs("....T...T...");
         new Probe("columns 0 and 11").esc("H").seq("12G").esc("H").tabs("T...T...T..T").seq("g").tabs("T...T...T...")
             .seq("1G", "g").tabs("....T...T...");

@@ -70,7 +70,7 @@ public final class PagesTest {
     private static void placedIsNotFull() {
         String[] stays = {"\033[A", "\033[C", "\033[9999C", "\033[12G", "\033[d", "\033[1;12H", "\033[1;12f", "\t"};
         for (String piece : stays) {
-            Probe probe = new Probe("placed by " + piece.substring(1)).fillRow().pack(piece).cursor(0, 11, false);
+            Probe probe = new Probe("placed by " + piece).fillRow().pack(piece).cursor(0, 11, false);
             probe.pack("x").line(0, "abcdefghijkx").cursor(0, 11, true);
         }
         String[] toColumn0 = {"\r", "\033[F", "\033[H", "\033[f", "\033[r", "\033[?6h", "\033[?6l", "\033[9999D", "\033[G"};

@@ -56,7 +56,20 @@ final class Probe {
 
     private static void tell(String answer) {
         wrong++;
-        System.out.println(sentence.isEmpty() ? answer : "\"" + sentence + "\": " + answer);
+        System.out.println(readable(sentence.isEmpty() ? answer : "\"" + sentence + "\": " + answer));
+    }
+
+    /** Controls stand as their numbers, so that a failing test does not draw on the reader's own screen. */
+    private static String readable(String text) {
+        StringBuilder line = new StringBuilder();
+        for (char c : text.toCharArray()) {
+            if (c >= 32 && c <= 126) {
+                line.append(c);
+            } else {
+                line.append('{').append((int) c).append('}');
+            }
+        }
+        return line.toString();
     }
 
     static void same(String what, boolean got, boolean want) {

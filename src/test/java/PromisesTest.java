@@ -217,7 +217,8 @@ public final class PromisesTest {
     }
 
     private static void cellsOfAnyLook() {
-        Probe probe = new Probe("cells").cells(32, -1, 96).cells('a', -1, 0).pack("aa").seq("1m").pack("ab ").seq("31m").pack("a");
+        Probe probe = new Probe("cells").cells(32, -1, 96).cells('a', -1, 0);
+        probe.pack("aa").seq("1m").pack("ab ").seq("31m").pack("a");
         for (int any : new int[] {-1, -2, -128, Integer.MIN_VALUE}) {
             probe.cells('a', any, 4).cells('b', any, 1).cells(32, any, 91).cells(-1, any, 0).cells(Integer.MAX_VALUE, any, 0);
         }

@@ -71,7 +71,8 @@ public final class RepliesTest {
 
     private static void repliesOfSixAndSevenBytes() {
         Probe six = new Probe("room for six").pack((Probe.CSI + "6n").repeat(9) + Probe.CSI + "5n").waiting(58);
-        six.seq("12G", "6n").waiting(58).seq("1G", "6n").waiting(64).seq("5n").replies("\033[1;1R".repeat(9) + WELL + "\033[1;1R");
+        six.seq("12G", "6n").waiting(58).seq("1G", "6n").waiting(64).seq("5n");
+        six.replies("\033[1;1R".repeat(9) + WELL + "\033[1;1R");
         Probe seven = new Probe("63 wait").seq("12G").pack((Probe.CSI + "6n").repeat(9)).waiting(63);
         seven.seq("6n", "5n").replies("\033[1;12R".repeat(9));
         Probe exact = new Probe("room for seven").pack((Probe.CSI + "6n").repeat(6)).seq("12G", "6n", "6n", "6n").waiting(57);
@@ -110,7 +111,7 @@ public final class RepliesTest {
         Probe.same("4th", probe.desk.reply(), 'n');
         probe.noReply();
         Probe many = new Probe("more than 64 bytes in all");
-        for (int i = 0; i < 40; i++) {
+        for (int i = 0; i < 30; i++) {
             many.seq((i % 8 + 1) + ";" + (i % 12 + 1) + "H", "6n").replies("\033[" + (i % 8 + 1) + ";" + (i % 12 + 1) + "R");
         }
         Probe filled = new Probe("never empty").pack((Probe.CSI + "5n").repeat(15));

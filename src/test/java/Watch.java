@@ -1,6 +1,6 @@
 /** A call that fails to end must fail the test, not keep it waiting. */
 final class Watch {
-    private static final long MOST_MILLISECONDS = 240_000;
+    private static final long MOST_MILLISECONDS = 120_000;
 
     private Watch() { }
 
