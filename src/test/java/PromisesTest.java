@@ -1,7 +1,8 @@
-/** Promises 2 to 15: feed, feedAll, and what can be asked. The others stand with the terms that they lean on. */
+/** How long an object is used; promises 2 to 15: feed, feedAll, and what can be asked. The others stand with the terms that they lean on. */
 public final class PromisesTest {
     public static void main(String[] args) {
         Sentence.holds("An object is used for at most 512 calls after it has been made;", PromisesTest::fiveHundredTwelveCalls);
+        Sentence.holds("what later calls answer is free.", PromisesTest::laterCallsDoNotThrow);
         Sentence.holds("`boolean feed(int b)`: Takes byte b;", PromisesTest::feedTakesEveryByte);
         Sentence.holds("false, and nothing is done, if it is not 0 .. 255.", PromisesTest::feedOfWhatIsNoByte);
         Sentence.holds("`int feedAll(long bytes)`: Takes up to eight bytes, from the lowest 8 bits of bytes on;",
@@ -41,6 +42,17 @@ public final class PromisesTest {
         }
         // 4088 letters: 340 rows and 8 letters in the row below.
         Probe.same("the 512th call", letters.cells('a', 0), 7 * 12 + 8);
+    }
+
+    /** Their answers are free, but a call never throws by itself (LANGUAGE.md, rule 7). */
+    private static void laterCallsDoNotThrow() {
+        ScreenDesk desk = new ScreenDesk();
+        String bytes = "ab\n\33[3;5r\33M\33[2L\33[6n\33[9b\t\7\33]title\7\33[?47h\33[1;31m\303\244\342\202";
+        for (int i = 0; i < 600 * bytes.length(); i++) {
+            desk.feed(bytes.charAt(i % bytes.length()));
+        }
+        Probe.same("a cell behind many calls", desk.code(7, 11) >= 0 && desk.look(7, 11) >= 0, true);
+        Probe.same("replies behind many calls", desk.waiting() <= 64, true);
     }
 
     private static void feedTakesEveryByte() {

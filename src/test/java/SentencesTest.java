@@ -8,7 +8,7 @@ import java.util.regex.Matcher;
 import java.util.regex.Pattern;
 import java.util.stream.Stream;
 
-/** The sentences that tests name stand in the document, and every sentence of its terms and promises has a test. */
+/** The sentences that tests name stand in the document, and each of its sentences has a test, but for 'Not promised'. */
 public final class SentencesTest {
     private static final Path DOCUMENT = Path.of("../shared/DOC.md");
     private static final Path TESTS = Path.of("src/test/java");
@@ -18,7 +18,9 @@ public final class SentencesTest {
     public static void main(String[] args) throws IOException {
         String document = Files.readString(DOCUMENT).replaceAll("```\\w*", " ");
         String whole = document.replaceAll("\\s+", " ");
-        String toCover = termsAndPromises(document);
+        // The face between these parts is compared by FaceTest.
+        String toCover = between(document, "## What it is", "## The public face")
+            + between(document, "## Terms", "## Not promised");
         boolean[] covered = new boolean[toCover.length()];
         for (String words : namedByTests()) {
             Probe.same("\"" + words + "\" stands in the document", whole.contains(words), true);
@@ -32,8 +34,8 @@ public final class SentencesTest {
         Probe.finish();
     }
 
-    private static String termsAndPromises(String document) {
-        String part = document.substring(document.indexOf("## Terms"), document.indexOf("## Not promised"));
+    private static String between(String document, String from, String to) {
+        String part = document.substring(document.indexOf(from), document.indexOf(to));
         return part.replaceAll("(?m)^## .*$", " ").replaceAll("\\s+", " ");
     }
 
