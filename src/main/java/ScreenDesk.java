@@ -371,7 +371,7 @@ public final class ScreenDesk {
                 return;
             }
             for (int at = from; at <= to; at++) {
-                boolean comes = at + by <= to;
+                boolean comes = by <= to - at;
                 codes[at] = comes ? codes[at + by] : BLANK_CODE;
                 looks[at] = comes ? looks[at + by] : BLANK_LOOK;
             }
@@ -383,7 +383,7 @@ public final class ScreenDesk {
                 return;
             }
             for (int at = to; at >= from; at--) {
-                boolean comes = at - by >= from;
+                boolean comes = by <= at - from;
                 codes[at] = comes ? codes[at - by] : BLANK_CODE;
                 looks[at] = comes ? looks[at - by] : BLANK_LOOK;
             }
